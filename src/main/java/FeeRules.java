@@ -25,7 +25,7 @@ public final class FeeRules {
     private static final int NUMBER_DIGITS = 6;
     private static final int READ_REFUSED = -1000;
 
-    // "step 1 2" and a blank: with fewer than nine bytes no step can be told, so a text has no more.
+    // A step takes nine bytes at least: "step 1 2" and a blank. So no text tells more of them.
     private static final int EDITION_STEPS = TEXT_BYTES / 9;
 
     // A kind of 1 digit, a measure of at most 7, cents of at most 12, two blanks and a byte 10.

@@ -11,6 +11,7 @@ public final class P05ReadTest {
         full(due);
         refusedTextsChangeNothing(due);
         longTexts(due);
+        behindOtherEditions(due);
         due.end();
     }
 
@@ -164,7 +165,7 @@ public final class P05ReadTest {
         due.is("nothing of it is in that", x.bill(0, 0, 0), 40);
     }
 
-    // The most steps that a text can tell, and the most words.
+    // The most steps that a text can tell, in each edition, and the most words.
     private static void longTexts(Due due) {
         StringBuilder steps = new StringBuilder("kind 0 per 1 price 0");
         int told = 0;
@@ -172,21 +173,36 @@ public final class P05ReadTest {
             told++;
             steps.append(" step ").append(told).append(" ").append(told % 10);
         }
-        FeeRules x = Told.houses(1);
-        due.is("many steps", Told.read(x, steps.toString(), 0, 0), 1);
-        due.is("many steps again", Told.read(x, steps.toString(), 1, 1), 1);
         long sum = 0;
         for (int unit = 0; unit < 1000; unit++) {
             sum += (unit < told ? unit : told) % 10;
         }
-        x.fact(0, 0, 0, 1000, 0);
-        due.is("the fee of many steps", x.bill(0, 0, 0), sum);
-        x.fact(0, 0, 30, 1000, 0);
-        due.is("the fee of the next ones", x.bill(0, 1, 1), sum);
+        FeeRules x = Told.houses(1);
+        for (int edition = 0; edition < 6; edition++) {
+            due.is("many steps, refused", Told.read(x, steps.substring(0, steps.length() - 2), 0, 0), -6 - 3 * told);
+            due.is("many steps", Told.read(x, steps.toString(), 30 * edition, 0), 1);
+            x.fact(0, 0, 30 * edition, 1000, 0);
+        }
+        for (int edition = 0; edition < 6; edition++) {
+            due.is("the fee of many steps", x.bill(0, edition, 0), sum);
+        }
         StringBuilder words = new StringBuilder("kind 0 per 1 price 1 step 1 1");
         while (words.length() + 2 <= 600) {
             words.append(" 2");
         }
-        due.is("many words", Told.read(x, words.toString(), 0, 0), -10);
+        due.is("many words", Told.read(new FeeRules(), words.toString(), 0, 0), -10);
+    }
+
+    // What editions before have, or lack, is nothing to the next one.
+    private static void behindOtherEditions(Due due) {
+        FeeRules x = new FeeRules();
+        for (int edition = 0; edition < 5; edition++) {
+            due.is("an edition", Told.read(x, "kind " + edition + " per 1 price 1", 0, 0), 1);
+            due.is("kind x", Told.read(x, "kind x", 0, 0), -2);
+            due.is("kind 6", Told.read(x, "kind 6", 0, 0), -2);
+            due.is("kind 999999", Told.read(x, "kind 999999", 0, 0), -2);
+        }
+        due.is("a rule of each kind", Told.read(x, "kind 5 per 1 price 1 kind 4 per 1 price 1 kind 3 per 1 price 1"
+            + " kind 2 per 1 price 1 kind 1 per 1 price 1 kind 0 per 1 price 1", 0, 0), 6);
     }
 }

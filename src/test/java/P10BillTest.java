@@ -7,7 +7,26 @@ public final class P10BillTest {
         monthsAndDays(due);
         editionsOfALine(due);
         openLines(due);
+        rulesOfOneEdition(due);
         due.end();
+    }
+
+    // Each rule has its own steps and cap.
+    private static void rulesOfOneEdition(Due due) {
+        FeeRules x = Told.houses(1);
+        Told.read(x, "kind 5 per 1 price 1 step 2 10 step 4 100 cap 200", 0, 0);
+        Told.read(x, "kind 3 per 1 price 1 step 2 10 step 4 100 kind 0 per 2 price 3 step 1 5"
+            + " kind 5 per 1 price 7 cap 30 kind 1 per 1 price 0 step 3 2 step 5 4 step 6 8", 30, 0);
+        x.fact(0, 3, 30, 6, 0);
+        x.fact(0, 0, 60, 6, 0);
+        x.fact(0, 5, 90, 6, 0);
+        x.fact(0, 1, 120, 8, 0);
+        x.fact(0, 5, 29, 6, 0);
+        due.is("kind 3", x.bill(0, 1, 0), 222);
+        due.is("kind 0", x.bill(0, 2, 0), 14);
+        due.is("kind 5", x.bill(0, 3, 0), 30);
+        due.is("kind 1", x.bill(0, 4, 0), 24);
+        due.is("kind 5 of the edition before", x.bill(0, 0, 0), 200);
     }
 
     private static void noneSuch(Due due) {
