@@ -651,7 +651,7 @@ public final class FeeRules {
             long price = prices.get(cell);
             long first = firstSteps.get(cell);
             long steps = stepCounts.get(cell);
-            for (int i = 0; i < steps; i++) {
+            for (int i = 0; i < EDITION_STEPS && i < steps; i++) {
                 int step = (int) first + i;
                 long next = stepStarts.get(step);
                 if (next >= measure) {
