@@ -1,4 +1,7 @@
-/** No call throws by itself, for any arguments, also far behind the 512th call. */
+/**
+ * No call throws by itself, for any arguments, also far behind the 512th call (rule 7 of the language);
+ * what it answers there is free.
+ */
 public final class AnyCallTest {
     private static final int RUNS = 200;
     private static final int CALLS = 5000;
@@ -18,6 +21,7 @@ public final class AnyCallTest {
 
     public static void main(String[] args) {
         Due due = new Due("AnyCallTest");
+        due.of("What it is", "what later calls answer is free.");
         for (int run = 0; run < RUNS; run++) {
             new AnyCallTest(run).play(due, run);
         }

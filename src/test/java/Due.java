@@ -1,8 +1,14 @@
-/** Counts a test's answers and prints those that are not the ones that are due. */
+/**
+ * Counts a test's answers and prints those that are not the ones that are due, each with the sentence
+ * of the document that it is of. DocumentTest looks whether all these sentences stand in the document.
+ */
 final class Due {
     static final long NO_AMOUNT = Long.MIN_VALUE;
 
     private final String test;
+    private String sentence = "";
+    private int sentences = 0;
+    private int askedOfSentence = 0;
     private int asked = 0;
     private int wrong = 0;
 
@@ -10,23 +16,32 @@ final class Due {
         this.test = test;
     }
 
+    /** What is asked from here on is the test of these words of a part of the document. */
+    void of(String part, String words) {
+        endSentence();
+        sentence = part + " \"" + words + "\", ";
+        sentences++;
+        askedOfSentence = 0;
+    }
+
     void is(String call, long got, long want) {
-        asked++;
-        if (got != want) {
-            wrong++;
-            System.out.println(test + ": " + call + " answered " + got + ", due is " + want);
-        }
+        is(call, got == want, String.valueOf(got), String.valueOf(want));
     }
 
     void is(String call, boolean got, boolean want) {
-        is(call, got ? 1 : 0, want ? 1 : 0);
+        is(call, got == want, String.valueOf(got), String.valueOf(want));
     }
 
     void is(String call, String got, String want) {
+        is(call, got.equals(want), "[" + got + "]", "[" + want + "]");
+    }
+
+    private void is(String call, boolean fits, String got, String want) {
         asked++;
-        if (!got.equals(want)) {
+        askedOfSentence++;
+        if (!fits) {
             wrong++;
-            System.out.println(test + ": " + call + " answered [" + got + "], due is [" + want + "]");
+            System.out.println(test + ": " + sentence + call + " answered " + got + ", due is " + want);
         }
     }
 
@@ -34,8 +49,17 @@ final class Due {
         return wrong > 0;
     }
 
+    // A test that asks nothing can't fail, so it is a fault itself.
+    private void endSentence() {
+        if (sentences > 0 && askedOfSentence == 0) {
+            wrong++;
+            System.out.println(test + ": " + sentence + "nothing was asked");
+        }
+    }
+
     void end() {
-        System.out.println(test + ": " + asked + " answers, " + wrong + " not as due");
+        endSentence();
+        System.out.println(test + ": " + sentences + " sentences, " + asked + " answers, " + wrong + " not as due");
         if (wrong > 0 || asked == 0) {
             System.exit(1);
         }

@@ -2,6 +2,8 @@
 public final class ModelTest {
     private static final int RUNS = 4000;
     private static final int CALLS = 512;
+    // The most calls that callAny makes, but for a text, which is cut to the calls that are left.
+    private static final int MOST_AT_ONCE = 40;
 
     private final Due due;
     private final Numbers numbers;
@@ -32,9 +34,16 @@ public final class ModelTest {
         for (int i = 0; i < first; i++) {
             callHouse();
         }
-        while (calls < CALLS && !due.hasWrong()) {
+        while (left() >= MOST_AT_ONCE && !due.hasWrong()) {
             callAny(numbers.below(40));
         }
+        while (left() > 0) {
+            callBill();
+        }
+    }
+
+    private int left() {
+        return CALLS - calls;
     }
 
     private void answer(String call, long got, long want) {
@@ -111,7 +120,7 @@ public final class ModelTest {
 
     private void callRead() {
         String text = aText();
-        for (int i = 0; i < text.length() && calls < CALLS - 1; i++) {
+        for (int i = 0; i < text.length() && left() > 2; i++) {
             answer("unit", x.unit(text.charAt(i)) ? 1 : 0, model.unit(text.charAt(i)));
         }
         if (numbers.oneIn(20)) {
