@@ -103,6 +103,7 @@ public final class FaceTest {
     }
 
     private void noMore(Due due) {
+        due.of("The public face", "public final class FeeRules {");
         due.is("the methods", declared.toString(), wanted.toString());
     }
 

@@ -15,6 +15,7 @@ public final class P05ReadTest {
         Due due = new Due("P05ReadTest");
         emptyThen(due);
         oneMoreEdition(due);
+        notWhatWasRefused(due);
         noWords(due);
         howMany(due);
         theFirstWordThatCannotStand(due);
@@ -60,6 +61,20 @@ public final class P05ReadTest {
         due.is("by its kind 1", x.bill(0, 1, 9), 20);
         Told.read(x, "kind 0 per 1 price 4", 20, 10);
         due.is("no step and no cap of others", x.bill(0, 0, 10), 40);
+    }
+
+    private static void notWhatWasRefused(Due due) {
+        due.of("Promise 5", "tells one more edition's rules");
+        FeeRules x = Told.houses(1);
+        x.fact(0, 0, 0, 10, 0);
+        x.fact(0, 1, 30, 10, 0);
+        due.is("refused", Told.read(x, "kind 0 per 1 price 1 step 1 9 step 4 7 cap 3 kind 1 per 2 price 8 x", 0, 0), -21);
+        due.is("told", Told.read(x, "kind 0 per 1 price 5", 0, 0), 1);
+        due.is("no step and no cap of the refused one", x.bill(0, 0, 0), 50);
+        due.is("no rule of the refused one", x.bill(0, 1, 0), Due.NO_AMOUNT);
+        due.is("refused", Told.read(x, "kind 1 per 1 price 1 step 1 9 step 2 9 step 3 9 cap 1 cap", 0, 0), -18);
+        due.is("told", Told.read(x, "kind 1 per 1 price 5 step 3 100", 0, 0), 1);
+        due.is("its own step alone", x.bill(0, 1, 0), 715);
     }
 
     private static void noWords(Due due) {
@@ -108,6 +123,8 @@ public final class P05ReadTest {
         FeeRules x = new FeeRules();
         for (int edition = 0; edition < 5; edition++) {
             due.is("kind 6, behind " + edition + " editions", Told.read(x, "kind 6", 0, 0), -2);
+            due.is("kind 999999, behind " + edition + " editions", Told.read(x, "kind 999999", 0, 0), -2);
+            due.is("kind x, behind " + edition + " editions", Told.read(x, "kind x per", 0, 0), -2);
             x.read(0, 0);
         }
         due.is("what other editions lack is nothing to it", Told.read(x, SIX, 0, 0), 6);

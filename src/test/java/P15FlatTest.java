@@ -31,6 +31,7 @@ public final class P15FlatTest {
         due.is("5 by 1000", shares(5, 1000), "5 ");
         due.is("1000000 by 1000, 0, 999, 1", shares(1000000, 1000, 0, 999, 1), "500000 0 499500 500 ");
         due.is("19 by 1, 1", shares(19, 1, 1), "10 9 ");
+        due.is("273 by 57, 6, where fractions of numbers of the machine fall short", shares(273, 57, 6), "247 26 ");
         FeeRules x = Told.cents(2, 2);
         x.fact(0, 0, 0, 10, 0);
         x.fact(1, 0, 0, 100, 0);

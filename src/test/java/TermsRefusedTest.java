@@ -13,6 +13,7 @@ public final class TermsRefusedTest {
     public static void main(String[] args) {
         Due due = new Due("TermsRefusedTest");
         changesNothing(due);
+        changesNoText(due);
         changesNothingWhenFull(due);
         butTheText(due);
         due.end();
@@ -24,6 +25,18 @@ public final class TermsRefusedTest {
             FeeRules called = made();
             due.is(REFUSED[which], refuse(called, which), true);
             due.is("behind " + REFUSED[which], seen(called), seen(made()));
+        }
+    }
+
+    private static void changesNoText(Due due) {
+        due.of("Terms", "A call that is refused changes nothing");
+        for (int which = 0; which < REFUSED.length; which++) {
+            if (!REFUSED[which].startsWith("read")) {
+                FeeRules called = made();
+                Told.text(called, "kin");
+                due.is(REFUSED[which], refuse(called, which), true);
+                due.is("the text behind " + REFUSED[which], Told.read(called, "d 0 per 1 price 1", 0, 0), 1);
+            }
         }
     }
 
@@ -60,7 +73,7 @@ public final class TermsRefusedTest {
         x.fact(0, 1, 31, 1, 0);
         x.fact(1, 0, 1, 4, 0);
         x.fact(0, 0, 10, 8, 0);
-        x.cap(0, 70);
+        x.cap(0, 60);
         x.relief(0, 0, 10, 11);
         x.weight(0, 1, 4);
         x.issue(0, 0, 0);
@@ -150,7 +163,8 @@ public final class TermsRefusedTest {
             }
         }
         all.append(x.fact(0, 0, 59, 30, 0)).append(' ');
-        all.append(Told.read(x, "kind 1 per 1 price 1", 30, 0)).append(' ').append(x.bill(0, 1, 0)).append(' ');
+        int read = Told.read(x, "kind 1 per 1 price 1 kind 0 per 1 price 1", 30, 0);
+        all.append(read).append(' ').append(x.bill(0, 1, 0)).append(' ');
         for (int i = 0; i < 9 && x.relief(0, 1, 0, 0); i++) {
             all.append("a relief more ");
         }

@@ -11,9 +11,7 @@ final class Told {
 
     static void text(FeeRules x, String text) {
         for (int i = 0; i < text.length(); i++) {
-            if (!x.unit(text.charAt(i))) {
-                throw new IllegalStateException("unit " + i + " was refused");
-            }
+            x.unit(text.charAt(i));
         }
     }
 
@@ -46,9 +44,7 @@ final class Told {
     /** The fee of a measure by a rule of kind 0, which is given from its U on. */
     static long fee(String rule, long measure) {
         FeeRules x = houses(1);
-        if (read(x, "kind 0 per " + rule, 0, 0) != 1) {
-            throw new IllegalStateException("the rule was refused: " + rule);
-        }
+        read(x, "kind 0 per " + rule, 0, 0);
         x.fact(0, 0, 0, measure, 0);
         return x.bill(0, 0, 0);
     }
