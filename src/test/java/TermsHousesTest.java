@@ -36,7 +36,7 @@ public final class TermsHousesTest {
     }
 
     private static void fourHousesAtMost(Due due) {
-        due.of("Terms", "4 at most");
+        due.of("Terms", "4 at most, each");
         FeeRules x = Told.houses(1, 1, 1);
         due.is("there is no fourth one", x.issued(3, 0), Due.NO_AMOUNT);
         due.is("the fourth one", x.house(1), 3);
