@@ -4,6 +4,7 @@
  */
 final class Due {
     static final long NO_AMOUNT = Long.MIN_VALUE;
+    private static final long MOST_MILLISECONDS = 300000;
 
     private final String test;
     private String sentence = "";
@@ -14,6 +15,22 @@ final class Due {
 
     Due(String test) {
         this.test = test;
+        endLate();
+    }
+
+    // A call that does not end would hold up the whole run, so a test that lasts too long fails.
+    private void endLate() {
+        Thread watch = new Thread(() -> {
+            try {
+                Thread.sleep(MOST_MILLISECONDS);
+            } catch (InterruptedException nobodyDoes) {
+                return;
+            }
+            System.out.println(test + ": has not ended");
+            Runtime.getRuntime().halt(1);
+        });
+        watch.setDaemon(true);
+        watch.start();
     }
 
     /** What is asked from here on is the test of these words of a part of the document. */
